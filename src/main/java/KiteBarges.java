@@ -60,7 +60,9 @@ public final class KiteBarges {
         text.read(river, true);
         text.length = 0;
         fleet.begin(river.begin());
-        Arrays.fill(isKept, false);
+        for (int k = 0; k < KEPT; k++) {
+            isKept[k] = false;
+        }
         planner.forget();
         return text.lines;
     }
@@ -109,7 +111,7 @@ public final class KiteBarges {
             return OUTSIDE;
         }
         int kite = river.kite[barge];
-        boolean isSuch = kind == PLAIN || kite == kind || kind == SAIL && kite == TORN;
+        boolean isSuch = kind == 0 || kite == kind || kind == SAIL && kite == TORN;
         return isSuch ? 100 * River.pulled(kite, 0, 1) + River.pulled(kite, 2, 1) : NOT;
     }
 
@@ -203,7 +205,7 @@ public final class KiteBarges {
         if (i < -2) {
             return OUTSIDE;
         }
-        return planner.told(planner.soonestOf(barge, hour), i);
+        return planner.answerOf(planner.soonestOf(barge, hour), i);
     }
 
     public int clear(int barge, int other, int i) {
@@ -217,7 +219,7 @@ public final class KiteBarges {
         if (planner.hoursOf[ahead] == NONE) {
             return NOT;
         }
-        return planner.told(planner.clearOf(barge, other, ahead), i);
+        return planner.answerOf(planner.clearOf(barge, other, ahead), i);
     }
 
     // ---- odds
@@ -512,7 +514,7 @@ public final class KiteBarges {
         int lines = 0;
         private final int[] bytes = new int[MOST_BYTES];
         // The token that was read last: its kind, its first byte, the byte behind it.
-        private int sort = END;
+        private int tokenKind = END;
         private int place = 0;
         private int end = 0;
         // The line that was read last: its word, its numbers (a kite is one).
@@ -548,7 +550,7 @@ public final class KiteBarges {
                     river.tell(word, numbers);
                 }
                 readToken();
-                if (sort == END) {
+                if (tokenKind == END) {
                     return NONE;
                 }
                 if (bytes[place] != BETWEEN_LINES) {
@@ -635,7 +637,7 @@ public final class KiteBarges {
 
         private boolean readNumber(int least, int most) {
             readToken();
-            if (sort != DIGITS || end - place > MOST_DIGITS) {
+            if (tokenKind != DIGITS || end - place > MOST_DIGITS) {
                 return false;
             }
             int number = 0;
@@ -659,17 +661,17 @@ public final class KiteBarges {
             while (place < length && bytes[place] == BLANK) {
                 place++;
             }
-            sort = sortAt(place);
+            tokenKind = kindAt(place);
             end = place;
-            while (end < length && sortAt(end) == sort) {
+            while (end < length && kindAt(end) == tokenKind) {
                 end++;
-                if (sort == OTHER) {
+                if (tokenKind == OTHER) {
                     break;
                 }
             }
         }
 
-        private int sortAt(int i) {
+        private int kindAt(int i) {
             if (i >= length) {
                 return END;
             }
@@ -803,7 +805,7 @@ public final class KiteBarges {
         }
 
         /** What a call tells of a passage: its hours (-2), its cord run (-1), or a layer. */
-        int told(int slot, int i) {
+        int answerOf(int slot, int i) {
             int hours = hoursOf[slot];
             if (hours == NONE || i >= hours) {
                 return NONE;
@@ -996,8 +998,10 @@ public final class KiteBarges {
         /** The greatest odds of one who sees each hour's lull ahead of it. */
         long bestSeeing(int barge, int n, int p) {
             findPlaces(barge, n);
-            Arrays.fill(laterValues, 0, THERE * LAYERS, 0);
-            Arrays.fill(laterValues, THERE * LAYERS, STATES, 1);
+            Arrays.fill(laterValues, 0L);
+            for (int layer = 0; layer < LAYERS; layer++) {
+                laterValues[THERE * LAYERS + layer] = 1;
+            }
             for (int hour = n - 1; hour >= 0; hour--) {
                 for (int place = 0; place < PLACES; place++) {
                     if (hoursTo[place] <= hour) {

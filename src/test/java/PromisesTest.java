@@ -457,6 +457,13 @@ public final class PromisesTest {
         is("14: the end of a reach", x.at(1, 1), 4);
         x.go(20);
         is("14: all are there", x.knots(0), 0);
+        // 7 times 7, twice, by 5: yard 19 of reach 0; by 1: yard 0 of reach 1.
+        KiteBarges y = Due.told("open 0 20;open 0 9;wind 0 0 23 1 7;barge 0 5 1 paired 0;barge 1 1 1 paired 0");
+        y.go(1);
+        is("14: at the last of the yards", y.at(0, 1), 19);
+        is("14: in the next reach", y.at(1, 0), 1);
+        is("14: not in one reach", y.knots(0), 0);
+        is("14: nor the other way round", y.knots(1), 0);
     }
 
     private static void keepAndBack() {
@@ -536,6 +543,12 @@ public final class PromisesTest {
     }
 
     private static void soonestChoosesCordThenLayers() {
+        // Down from layer 3 by 2, up to it by 4: both run as much, 2 is the first.
+        KiteBarges z = Due.told("open 0 5;open 2 5;barge 0 10 5 plain 0;wind 3 0 0 0 5;wind 2 1 1 2 5;wind 4 1 1 2 5");
+        Due.tell(z, "open 4 5;wind 1 2 2 4 5;wind 3 2 2 4 5");
+        is("17: as much cord run", z.soonest(0, 0, -1), 5);
+        is("17: first by layers", z.soonest(0, 0, 1), 2);
+        is("17: then by layers", z.soonest(0, 0, 2), 1);
         // Layers 1 and 3 go through reach 0, 2 and 3 through reach 1: by 3 and 3 it is 3, by 1 and 2 it is 2.
         KiteBarges x = Due.told("open 0 5;open 2 5;barge 0 10 5 plain 0;barge 1 10 1 plain 0",
                 "wind 1 0 23 0 5;wind 3 0 0 0 5;wind 3 1 23 2 5;wind 2 0 23 2 5");
