@@ -11,14 +11,17 @@ public final class BruteForceTest {
     public static void main(String[] args) {
         for (int seed = 0; seed < 300; seed++) {
             Random random = new Random(seed);
-            KiteBarges x = Texts.river(random, 1 + random.nextInt(seed % 2 == 0 ? 3 : 8));
-            Model model = new Model(x);
-            plans(x, model, seed, random);
-            clears(x, model, seed);
-            lulls(x, model, seed, random);
-            lines(x, model, seed);
-            books(x, model, seed);
-            hours(x, model, seed, random);
+            String[] texts = Texts.river(random, 1 + random.nextInt(seed % 2 == 0 ? 3 : 8));
+            Anew a = new Anew(texts);
+            Model model = new Model(Due.told(texts));
+            plans(a, model, seed, random);
+            clears(a, model, seed);
+            lulls(a, model, seed, random);
+            lines(a, model, seed);
+            books(a, model, seed);
+            for (int time = 0; time < 5; time++) {
+                hours(Due.told(texts), model, seed, random);
+            }
         }
         DUE.end();
     }
@@ -202,17 +205,17 @@ public final class BruteForceTest {
         }
     }
 
-    private static void plans(KiteBarges x, Model m, int seed, Random random) {
+    private static void plans(Anew a, Model m, int seed, Random random) {
         for (int barge = 0; barge < 4; barge++) {
             int b = barge;
             for (int start : new int[] {0, 1, random.nextInt(24), 20, 21, 22, 23}) {
                 String what = "seed " + seed + ": soonest of " + b + " from " + start;
-                same(what, i -> x.soonest(b, start, i), fromBehind(m, b, start, nobody(m)));
+                same(what, i -> a.x().soonest(b, start, i), fromBehind(m, b, start, nobody(m)));
                 Passage tried = byTrying(m, b, start, nobody(m));
                 if (tried != null || start + DEEP >= 24) {
-                    same(what + " by trying", i -> x.soonest(b, start, i), tried);
+                    same(what + " by trying", i -> a.x().soonest(b, start, i), tried);
                 } else {
-                    int hours = x.soonest(b, start, -2);
+                    int hours = a.x().soonest(b, start, -2);
                     DUE.holds(what + " is longer", hours == -1 || hours > DEEP);
                 }
             }
@@ -230,7 +233,7 @@ public final class BruteForceTest {
         return line;
     }
 
-    private static void clears(KiteBarges x, Model m, int seed) {
+    private static void clears(Anew a, Model m, int seed) {
         for (int barge = 0; barge < 4; barge++) {
             for (int other = 0; other < 4; other++) {
                 if (barge == other) {
@@ -241,14 +244,14 @@ public final class BruteForceTest {
                 String what = "seed " + seed + ": " + b + " clear of " + o;
                 Passage ahead = fromBehind(m, o, 0, nobody(m));
                 if (ahead == null) {
-                    DUE.is(what, x.clear(b, o, -2), -4);
+                    DUE.is(what, a.x().clear(b, o, -2), -4);
                     continue;
                 }
                 int[][] line = line(m, o, ahead);
-                same(what, i -> x.clear(b, o, i), fromBehind(m, b, 1, line));
+                same(what, i -> a.x().clear(b, o, i), fromBehind(m, b, 1, line));
                 Passage tried = byTrying(m, b, 1, line);
                 if (tried != null) {
-                    same(what + " by trying", i -> x.clear(b, o, i), tried);
+                    same(what + " by trying", i -> a.x().clear(b, o, i), tried);
                 }
             }
         }
@@ -270,19 +273,32 @@ public final class BruteForceTest {
         return sum;
     }
 
-    private static long sightOf(Model m, int b, int[] at, int layer, int hour, int n, int p) {
-        if (hour == n) {
-            return at[0] == m.reaches ? 1 : 0;
-        }
-        long ifLull = 0;
-        long ifWind = 0;
-        for (int to = 0; to < 6; to++) {
-            if (Math.abs(to - layer) <= m.barge[b][1]) {
-                ifLull = Math.max(ifLull, sightOf(m, b, at, to, hour + 1, n, p));
-                ifWind = Math.max(ifWind, sightOf(m, b, m.moved(b, at, to, hour), to, hour + 1, n, p));
+    /** One who sees, with n hours of his in all. */
+    private record Seer(Model m, int b, int n, int p, Map<Integer, Long> known) {
+        long oddsOf(int[] at, int layer, int hour) {
+            if (hour == n) {
+                return at[0] == m.reaches ? 1 : 0;
             }
+            int key = ((hour * 9 + at[0]) * 20 + at[1]) * 6 + layer;
+            Long had = known.get(key);
+            if (had != null) {
+                return had;
+            }
+            long ifLull = 0;
+            long ifWind = 0;
+            for (int to = 0; to < 6; to++) {
+                if (Math.abs(to - layer) <= m.barge[b][1]) {
+                    ifLull = Math.max(ifLull, oddsOf(at, to, hour + 1));
+                    ifWind = Math.max(ifWind, oddsOf(m.moved(b, at, to, hour), to, hour + 1));
+                }
+            }
+            known.put(key, ifLull * p + ifWind * (10 - p));
+            return ifLull * p + ifWind * (10 - p);
         }
-        return ifLull * p + ifWind * (10 - p);
+    }
+
+    private static long sightOf(Model m, int b, int n, int p) {
+        return new Seer(m, b, n, p, new HashMap<>()).oddsOf(new int[] {0, 0}, 0, 0);
     }
 
     private static long blindOf(Model m, int b, int[] row, int filled, int p) {
@@ -315,37 +331,38 @@ public final class BruteForceTest {
         DUE.is(what + " below", below, ten / a);
     }
 
-    private static void lulls(KiteBarges x, Model m, int seed, Random random) {
+    private static void lulls(Anew a, Model m, int seed, Random random) {
         for (int b = 0; b < 4; b++) {
             int n = random.nextInt(9);
             int p = random.nextInt(11);
             String what = "seed " + seed + ": barge " + b + ", p " + p + ", n ";
             Passage soonest = fromBehind(m, b, 0, nobody(m));
             if (soonest == null) {
-                DUE.is(what + n + ": odds", x.odds(b, n, p, 0), -4);
+                DUE.is(what + n + ": odds", a.x().odds(b, n, p, 0), -4);
             } else {
-                sameOdds(what + n + ": odds", x.odds(b, n, p, 0), x.odds(b, n, p, 1), oddsOf(m, b, soonest.row, n, p), n);
+                sameOdds(what + n + ": odds", a.x().odds(b, n, p, 0), a.x().odds(b, n, p, 1), oddsOf(m, b, soonest.row, n, p), n);
             }
+            sameOdds(what + n + ": sight", a.x().sight(b, n, p, 0), a.x().sight(b, n, p, 1), sightOf(m, b, n, p), n);
             int few = random.nextInt(5);
-            long seen = sightOf(m, b, new int[] {0, 0}, 0, 0, few, p);
+            long seen = sightOf(m, b, few, p);
             long unseen = blindOf(m, b, new int[few], 0, p);
-            sameOdds(what + few + ": sight", x.sight(b, few, p, 0), x.sight(b, few, p, 1), seen, few);
-            sameOdds(what + few + ": blind", x.blind(b, few, p, 0), x.blind(b, few, p, 1), unseen, few);
-            sameOdds(what + few + ": worth", x.worth(b, few, p, 0), x.worth(b, few, p, 1), seen - unseen, few);
-            sightIsNotBelowOdds(x, b, n, p, what);
+            sameOdds(what + few + ": sight", a.x().sight(b, few, p, 0), a.x().sight(b, few, p, 1), seen, few);
+            sameOdds(what + few + ": blind", a.x().blind(b, few, p, 0), a.x().blind(b, few, p, 1), unseen, few);
+            sameOdds(what + few + ": worth", a.x().worth(b, few, p, 0), a.x().worth(b, few, p, 1), seen - unseen, few);
+            sightIsNotBelowOdds(a, b, n, p, what);
         }
     }
 
-    private static void sightIsNotBelowOdds(KiteBarges x, int b, int n, int p, String what) {
-        long odds = x.odds(b, n, p, 0);
+    private static void sightIsNotBelowOdds(Anew a, int b, int n, int p, String what) {
+        long odds = a.x().odds(b, n, p, 0);
         if (odds >= 0) {
-            long below = x.odds(b, n, p, 1);
+            long below = a.x().odds(b, n, p, 1);
             DUE.holds(what + n + ": sight is not below odds",
-                    x.sight(b, n, p, 0) * below >= odds * x.sight(b, n, p, 1));
+                    a.x().sight(b, n, p, 0) * below >= odds * a.x().sight(b, n, p, 1));
         }
     }
 
-    private static void lines(KiteBarges x, Model m, int seed) {
+    private static void lines(Anew a, Model m, int seed) {
         int[][] bits = new int[m.reaches][6];
         for (int b = 0; b < 4; b++) {
             int[][] first = new int[m.reaches][6];
@@ -362,18 +379,18 @@ public final class BruteForceTest {
             }
             for (int r = 0; r < m.reaches; r++) {
                 for (int layer = 0; layer < 6; layer++) {
-                    DUE.is("seed " + seed + ": first(" + b + ", " + r + ", " + layer + ")", x.first(b, r, layer), first[r][layer]);
+                    DUE.is("seed " + seed + ": first(" + b + ", " + r + ", " + layer + ")", a.x().first(b, r, layer), first[r][layer]);
                 }
             }
         }
         for (int r = 0; r < m.reaches; r++) {
             for (int layer = 0; layer < 6; layer++) {
-                DUE.is("seed " + seed + ": found(" + r + ", " + layer + ")", x.found(r, layer), bits[r][layer]);
+                DUE.is("seed " + seed + ": found(" + r + ", " + layer + ")", a.x().found(r, layer), bits[r][layer]);
             }
         }
     }
 
-    private static void books(KiteBarges x, Model m, int seed) {
+    private static void books(Anew a, Model m, int seed) {
         for (int b = 0; b < 4; b++) {
             int often = 0;
             int hour = 0;
@@ -383,8 +400,8 @@ public final class BruteForceTest {
                 hour += passage.row.length;
                 passage = hour < 24 ? fromBehind(m, b, hour, nobody(m)) : null;
             }
-            DUE.is("seed " + seed + ": books of " + b, x.books(b, 0), often);
-            DUE.is("seed " + seed + ": freight of " + b, x.books(b, 1), often * m.barge[b][3]);
+            DUE.is("seed " + seed + ": books of " + b, a.x().books(b, 0), often);
+            DUE.is("seed " + seed + ": freight of " + b, a.x().books(b, 1), often * m.barge[b][3]);
         }
     }
 
@@ -394,7 +411,7 @@ public final class BruteForceTest {
         int[][][] kept = new int[2][][];
         int[] keptHours = new int[2];
         int hours = 0;
-        for (int call = 0; call < 60; call++) {
+        for (int call = 0; call < 16; call++) {
             String what = "seed " + seed + ", call " + call + ": ";
             int k = random.nextInt(2);
             switch (random.nextInt(8)) {

@@ -114,21 +114,6 @@ public final class RulesTest {
         }
     }
 
-    private static final String[] PIECES = {"open", "trees", "lock", "dry", "wind", "barge", "sold", "still", "plain",
-        "paired", "slow", "sail", "torn", ";", " ", "  ", "0", "1", "2", "7", "9", "23", "60", "99", "100", "x", "\0", "A"};
-
-    private static String wildText(Random random) {
-        StringBuilder text = new StringBuilder();
-        int lines = random.nextInt(9);
-        for (int i = 0; i <= lines; i++) {
-            text.append(i > 0 ? ";" : "").append(Texts.line(random));
-        }
-        while (random.nextInt(4) == 0) {
-            text.insert(random.nextInt(text.length() + 1), PIECES[random.nextInt(PIECES.length)]);
-        }
-        return text.toString();
-    }
-
     private static int wild(Random random, int least, int most) {
         switch (random.nextInt(40)) {
             case 0: return Integer.MIN_VALUE;
@@ -148,7 +133,7 @@ public final class RulesTest {
                 KiteBarges x = new KiteBarges();
                 for (int i = 0; i < 512; i++) {
                     if (random.nextInt(20) == 0) {
-                        Due.write(x, wildText(random));
+                        Due.write(x, Texts.wild(random));
                         if (random.nextInt(2) == 0) {
                             x.erase();
                         }

@@ -1,6 +1,8 @@
+import java.util.ArrayList;
+import java.util.List;
 import java.util.Random;
 
-/** Lines made at random, without faults but that a ninth reach may be told. */
+/** Lines made at random, without faults but that a ninth reach may be told; and texts with faults. */
 final class Texts {
     private static final String[] REACHES = {"open", "trees", "lock"};
     private static final String[] KITES = {"plain", "paired", "slow", "sail", "torn"};
@@ -17,6 +19,22 @@ final class Texts {
             case 6: case 7: case 8: return barge(random, random.nextInt(4));
             default: return wind(random, random.nextInt(6));
         }
+    }
+
+    private static final String[] PIECES = {"open", "trees", "lock", "dry", "wind", "barge", "sold", "still", "plain",
+        "paired", "slow", "sail", "torn", ";", " ", "  ", "0", "1", "2", "7", "9", "23", "60", "99", "100", "x", "\0", "A"};
+
+    /** Some lines, mostly without a fault. */
+    static String wild(Random random) {
+        StringBuilder text = new StringBuilder();
+        int lines = random.nextInt(9);
+        for (int i = 0; i <= lines; i++) {
+            text.append(i > 0 ? ";" : "").append(line(random));
+        }
+        while (random.nextInt(4) == 0) {
+            text.insert(random.nextInt(text.length() + 1), PIECES[random.nextInt(PIECES.length)]);
+        }
+        return text.toString();
     }
 
     /** Ways are mostly near one another, so that there is wind for most reaches. */
@@ -41,21 +59,25 @@ final class Texts {
                 + random.nextInt(10);
     }
 
-    /** An object with some reaches, winds in most layers, and all barges told. */
-    static KiteBarges river(Random random, int reaches) {
-        KiteBarges x = new KiteBarges();
+    /** Texts that tell some reaches, winds in most layers, and all barges. */
+    static String[] river(Random random, int reaches) {
+        List<String> lines = new ArrayList<>();
         for (int i = 0; i < reaches; i++) {
-            Due.tell(x, reach(random));
+            lines.add(reach(random));
         }
         for (int layer = 0; layer < 6; layer++) {
             for (int i = random.nextInt(3); i >= 0; i--) {
-                Due.tell(x, wind(random, layer));
+                lines.add(wind(random, layer));
             }
         }
         for (int barge = 0; barge < 4; barge++) {
-            Due.tell(x, barge(random, barge));
+            lines.add(barge(random, barge));
         }
-        Due.tell(x, "still " + random.nextInt(10));
-        return x;
+        lines.add("still " + random.nextInt(10));
+        String[] texts = new String[(lines.size() + 7) / 8];
+        for (int i = 0; i < texts.length; i++) {
+            texts[i] = String.join(";", lines.subList(8 * i, Math.min(lines.size(), 8 * i + 8)));
+        }
+        return texts;
     }
 }
