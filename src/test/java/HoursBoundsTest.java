@@ -60,7 +60,9 @@ public final class HoursBoundsTest {
             is("1: nor its plan", x.soonest(barge, 0, 0), UNKNOWN);
             is("1: nor its books", x.books(barge, 0), UNKNOWN);
         }
-        is("1: still", x.count(2), 2);
+        for (int what = 0; what < 6; what++) {
+            is("1: count(" + what + ")", x.count(what), what == 2 ? 2 : 0);
+        }
         is("1: hours go", x.go(24), 24);
         is("1: and are counted", x.count(3), 24);
         is("1: nothing is kept", x.back(0), NOT);

@@ -8,6 +8,8 @@ public final class PlansBoundsTest {
         soonestHasTheFewestHours();
         soonestHasTheLeastCordRun();
         soonestIsTheFirstByLayers();
+        soonestWeighsRowsThatEndElsewhere();
+        soonestIsOfEachAskedInTurn();
         soonestIsToHour23();
         soonestIsFromAnHourOn();
         soonestIsOfAllItsHours();
@@ -20,6 +22,8 @@ public final class PlansBoundsTest {
         clearIsFromHour1();
         clearIsToHour23();
         clearOfOneWhoIsGone();
+        clearOfOneThatGoesFromHour0();
+        clearIsOfEachPair();
         clearHasToWait();
         clearHasNone();
         clearIsNotNow();
@@ -27,6 +31,7 @@ public final class PlansBoundsTest {
         oddsOfEachReach();
         oddsAreWithinHours();
         oddsKeepToTheLastLayer();
+        oddsKeepToEachLayer();
         oddsWithoutReaches();
         lullsDoNotOpenLocks();
         sightIsMoreThanBlind();
@@ -109,6 +114,37 @@ public final class PlansBoundsTest {
         // Down: layer 5 in hour 0, layer 3 in hour 2: in hour 1 layers 5, 4, 3 run as much.
         KiteBarges y = Due.told("open 0 1;open 2 1;wind 5 0 0 0 9;wind 3 2 2 2 9;barge 0 1 5 plain 0");
         soonestIs("17: down as soon as can be", y, 0, 0, 7, 5, 3, 3);
+    }
+
+    /** By 10 yards in two hours, in one layer and another: which yards a layer goes in which hour. */
+    private static void soonestWeighsRowsThatEndElsewhere() {
+        // 0 and 2, 1 and 0, 1 and 2 all come there, each by two of cord run.
+        KiteBarges x = Due.told("open 0 10;wind 0 0 1 0 1;wind 1 0 0 0 9;wind 2 1 1 0 9;barge 0 10 5 plain 0");
+        soonestIs("17: as much cord run, another last layer", x, 0, 0, 2, 0, 2);
+        // Without wind in layer 0 in hour 0 the first is 1 and 0.
+        Due.tell(x, "wind 0 0 0 0 0");
+        soonestIs("17: as much cord run, the lower last layer", x, 0, 0, 2, 1, 0);
+        // 2 and 0 by four, 3 and 0 by six, 3 and 3 by three.
+        KiteBarges y = Due.told("open 0 10;wind 2 0 0 0 5;wind 0 1 1 0 5;wind 3 0 0 0 9;wind 3 1 1 0 1;barge 0 10 5 plain 0");
+        soonestIs("17: less cord run by a later row", y, 0, 0, 3, 3, 3);
+        // 0, 5, 3 by seven, 3, 3, 3 by three: both are at yard 2 behind hour 1.
+        KiteBarges z = Due.told("open 0 4;wind 3 0 1 0 1;wind 5 1 1 0 2;wind 3 2 2 0 2;barge 0 10 5 plain 0");
+        soonestIs("17: less cord run to the same place", z, 0, 0, 3, 3, 3, 3);
+    }
+
+    private static void soonestIsOfEachAskedInTurn() {
+        KiteBarges x = Due.told("open 0 4;open 2 4;wind 3 0 23 0 4;wind 1 0 23 2 2;wind 4 9 23 2 4",
+                "barge 0 10 5 plain 0;barge 1 10 2 plain 0;barge 2 5 3 plain 0;barge 3 20 5 torn 0");
+        for (int time = 0; time < 3; time++) {
+            soonestIs("17: barge 0", x, 0, 0, 5, 3, 1, 1);
+            soonestIs("17: barge 1", x, 1, 0, 5, 1, 3, 1, 1);
+            soonestIs("17: barge 0 from hour 9", x, 0, 9, 4, 3, 4);
+            soonestIs("17: barge 2", x, 2, 0, 5, 3, 1);
+            soonestIs("17: barge 1 from hour 9", x, 1, 9, 4, 1, 3, 4);
+            noSoonest("17: barge 1 from hour 22", x, 1, 22);
+            soonestIs("17: barge 0 from hour 22", x, 0, 22, 4, 3, 4);
+            soonestIs("17: barge 3", x, 3, 9, 4, 3, 3, 3, 3, 4, 4, 4, 4);
+        }
     }
 
     // ---- "(of that one on, to HOUR 23 at the most)"
@@ -288,6 +324,38 @@ public final class PlansBoundsTest {
         clearIs("18: it waits in layer 1", y, 0, 1, 2, 1, 0);
     }
 
+    private static void clearOfOneThatGoesFromHour0() {
+        // Barge 1 comes there in hour 0, and could not later; barge 0 has a sail for the winds of hours 1 on.
+        KiteBarges x = Due.told("open 0 5;wind 0 0 0 0 1;wind 0 1 23 2 9;barge 0 9 1 sail 0;barge 1 1 1 plain 0");
+        noSoonest("18: the other one from hour 1", x, 1, 1);
+        clearIs("18: of one gone in hour 0", x, 0, 1, 0, 0);
+        is("18: the other way round", x.clear(1, 0, HOURS), NONE);
+    }
+
+    private static void clearIsOfEachPair() {
+        // A yard an hour, two, four, eight: each in layer 0 alone, on 8 yards.
+        KiteBarges x = Due.told("open 0 8;wind 0 0 23 0 4;barge 0 40 1 plain 0;barge 1 20 1 plain 0;barge 2 10 1 plain 0;barge 3 5 1 plain 0");
+        for (int time = 0; time < 3; time++) {
+            for (int barge = 0; barge < 3; barge++) {
+                is("18: 3 of " + barge, x.clear(3, barge, HOURS), 1);
+                is("18: " + barge + " of 3", x.clear(barge, 3, HOURS), 8 >> barge);
+            }
+            for (int hour = 0; hour < 24; hour++) {
+                is("17: 3 from hour " + hour, x.soonest(3, hour, HOURS), 1);
+            }
+            // Barge 0 is at yard 2 behind hour 1, 3 behind hour 2, and so on, there behind hour 7: barge 1 comes to
+            // yard 2 and 4 behind hours 5 and 6 at the soonest without a layer more, then to 6, then there.
+            clearIs("18: 1 of 0", x, 1, 0, 2, 1, 1, 1, 1, 0, 0, 0, 0);
+            is("18: 2 of 0", x.clear(2, 0, HOURS), 2);
+            is("18: 0 of 1", x.clear(0, 1, HOURS), 8);
+            is("18: 0 of 2", x.clear(0, 2, HOURS), 8);
+            is("18: 2 of 1", x.clear(2, 1, HOURS), 3);
+            is("18: 1 of 2", x.clear(1, 2, HOURS), 4);
+            is("18: 2 of 1, cord run", x.clear(2, 1, CORD_RUN), 2);
+            is("18: 1 of 2, cord run", x.clear(1, 2, CORD_RUN), 0);
+        }
+    }
+
     private static void clearHasToWait() {
         // Barge 1 is by layer 2 in reach 1; barge 0 may come there in layer 2, too, but not where it is.
         KiteBarges x = Due.told("open 0 1;open 2 4;wind 0 0 23 0 1;wind 2 1 23 2 1;barge 0 10 5 plain 0;barge 1 10 5 plain 0");
@@ -410,6 +478,16 @@ public final class PlansBoundsTest {
         part("19: and no more", x.odds(0, 8, 4, 0), x.odds(0, 8, 4, 1), 84000000, 8);
         part("21: blind takes all hours", x.blind(0, 4, 4, 0), x.blind(0, 4, 4, 1), 10000 - 256, 4);
         part("20: so does sight", x.sight(0, 4, 4, 0), x.sight(0, 4, 4, 1), 10000 - 256, 4);
+    }
+
+    private static void oddsKeepToEachLayer() {
+        // Layer 0 in hour 0, 3 in hour 1, 1 in hour 2 and on; each hour's layer goes whether there was a lull or not.
+        KiteBarges x = Due.told("open 0 1;open 2 1;open 4 1;wind 0 0 0 0 9;wind 3 1 1 2 9;wind 1 2 23 4 9;barge 0 1 5 plain 0");
+        soonestIs("19: the layers", x, 0, 0, 5, 0, 3, 1);
+        part("19: n 2", x.odds(0, 2, 3, 0), x.odds(0, 2, 3, 1), 0, 2);
+        part("19: n 3", x.odds(0, 3, 3, 0), x.odds(0, 3, 3, 1), 343, 3);
+        part("19: n 4", x.odds(0, 4, 3, 0), x.odds(0, 4, 3, 1), 4900 - 441, 4);
+        part("19: n 8", x.odds(0, 8, 3, 0), x.odds(0, 8, 3, 1), 49 * (1000000 - 729), 8);
     }
 
     private static void oddsWithoutReaches() {

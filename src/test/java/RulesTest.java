@@ -19,6 +19,8 @@ public final class RulesTest {
         words();
         wildCalls();
         refusedCallsChangeNothing();
+        last512thCall();
+        roomOfCalls();
         DUE.end();
     }
 
@@ -230,5 +232,40 @@ public final class RulesTest {
             x.found(0, 0);
         }
         DUE.holds("refused calls and plans change nothing", before.equals(picture(x)));
+    }
+
+    /** "An object is used for at most 512 calls": the last of them is answered as the first. */
+    private static void last512thCall() {
+        KiteBarges x = new KiteBarges();
+        for (int pair = 0; pair < 255; pair++) {
+            x.write('x', 1);
+            x.erase();
+        }
+        DUE.is("the 511th call", x.write('d' | 'r' << 8 | 'y' << 16, 3), 3);
+        DUE.is("the 512th call", x.fault(), -1);
+    }
+
+    /** One room holds all that the calls of a run make: an object is small, and its calls make nothing. */
+    private static void roomOfCalls() {
+        com.sun.management.ThreadMXBean threads =
+                (com.sun.management.ThreadMXBean) java.lang.management.ManagementFactory.getThreadMXBean();
+        long self = Thread.currentThread().getId();
+        for (int seed = 0; seed < 40; seed++) {
+            Random random = new Random(seed);
+            String[] texts = Texts.river(random, 8);
+            threads.getThreadAllocatedBytes(self);
+            long begin = threads.getThreadAllocatedBytes(self);
+            KiteBarges x = new KiteBarges();
+            long made = threads.getThreadAllocatedBytes(self);
+            Due.tell(x, texts);
+            long told = threads.getThreadAllocatedBytes(self);
+            for (int i = 0; i < 400; i++) {
+                wildCall(x, random);
+            }
+            long end = threads.getThreadAllocatedBytes(self);
+            DUE.holds("an object takes " + (made - begin) + " bytes", made - begin < 100_000);
+            DUE.holds("texts make " + (told - made) + " bytes", told - made < 10_000);
+            DUE.holds("400 calls make " + (end - told) + " bytes", end - told < 10_000);
+        }
     }
 }
