@@ -35,6 +35,8 @@ public final class PlansBoundsTest {
         oddsWithoutReaches();
         lullsDoNotOpenLocks();
         sightIsMoreThanBlind();
+        sightWithWindInAllLayers();
+        sightIsOfOneWhoIsThereAlone();
         sightIsOfOneWhoHasNoSoonest();
         foundIsBehindAnHour();
         foundIsOfAllReaches();
@@ -541,6 +543,39 @@ public final class PlansBoundsTest {
             is("21: n " + n, x.blind(0, n, 5, 0), OUTSIDE);
             is("22: n " + n, x.worth(0, n, 5, 0), OUTSIDE);
         }
+    }
+
+    /** Each layer goes 5 of 20 yards an hour, so that only a lull leaves a barge where it is: four hours without one. */
+    private static void sightWithWindInAllLayers() {
+        KiteBarges x = Due.told("open 0 20;wind 0 0 23 0 5;wind 1 0 23 0 5;wind 2 0 23 0 5;wind 3 0 23 0 5;wind 4 0 23 0 5;wind 5 0 23 0 5",
+                "barge 0 10 5 plain 0;barge 1 10 1 plain 0");
+        int[] ways = {1, 8, 28, 56, 70, 56, 28, 8, 1};
+        for (int p = 10; p >= 0; p--) {
+            long enough = 0;
+            for (int lulls = 0; lulls <= 4; lulls++) {
+                enough += ways[lulls] * power(p, lulls) * power(10 - p, 8 - lulls);
+            }
+            for (int barge = 0; barge < 2; barge++) {
+                part("20: n 8, p " + p, x.sight(barge, 8, p, 0), x.sight(barge, 8, p, 1), enough, 8);
+                part("19: n 8, p " + p, x.odds(barge, 8, p, 0), x.odds(barge, 8, p, 1), enough, 8);
+                oddsAre(x, barge, 4, p, power(10 - p, 4));
+                oddsAre(x, barge, 3, p, 0);
+            }
+        }
+    }
+
+    /** The last yard of the eighth reach, in layer 5, is not there as yet. */
+    private static void sightIsOfOneWhoIsThereAlone() {
+        String seven = "open 0 1" + ";open 0 1".repeat(6);
+        KiteBarges x = Due.told(seven, "open 0 20;wind 5 0 23 1 7;barge 0 5 5 paired 0");
+        is("10: 19 yards", x.yards(0, 7, 5, 7), 19);
+        is("17: nine hours", x.soonest(0, 0, HOURS), 9);
+        is("20: not within eight", x.sight(0, 8, 0, 0), 0);
+        is("19: nor so", x.odds(0, 8, 0, 0), 0);
+        Due.tell(x, "dry", seven + ";open 0 19");
+        is("17: eight hours", x.soonest(0, 0, HOURS), 8);
+        is("20: within eight", x.sight(0, 8, 0, 0), 1);
+        is("19: so, too", x.odds(0, 8, 0, 0), 1);
     }
 
     private static void sightIsOfOneWhoHasNoSoonest() {
