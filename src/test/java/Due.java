@@ -15,6 +15,11 @@ final class Due {
         is(what, holds ? 1 : 0, 1);
     }
 
+    /** How many answers were asked for as yet. */
+    int asked() {
+        return asked;
+    }
+
     /** Ends the test: with exit code 1, if an answer was not as due. */
     void end() {
         System.out.println((asked - wrong) + " of " + asked + " answers are as due");
